@@ -309,6 +309,15 @@ public final class HoursTest {
         y.seed(Draws.forWinds(0, 9));
         y.hours(1);
         due.is("a way of 1 is above 0", y.fleet(3), 1);
+        NineSail there = new NineSail();
+        there.boat(0, 1, 0);
+        there.boat(0, 1, 0);
+        there.rule(1, 2);
+        there.hands(1);
+        there.seed(Draws.forWinds(0));
+        there.hours(1);
+        due.is("a way of 0 is not above 0", there.fleet(3), 1);
+        due.is("SINCE", there.fleet(4), 1);
     }
 
     private static void lastHour() {

@@ -134,6 +134,8 @@ public final class TextsTest {
         }
         Object[][] faults = {
             {"f", 0}, {"feee 1", 0}, {"pul 1", 0}, {"  pulls 1", 2}, {"1", 0}, {"w", 0}, {"+", 0}, {"FEE 1", 0},
+            {"feez 1", 0}, {"feea 1", 0},
+            {"gee 1", 0}, {"mull 1", 0}, {"wine 1", 0}, {"fe e 1", 0}, {"fee 1{", 5}, {"fee 1`", 5}, {"fee 1:", 5},
             {"fee1", 3}, {"pull12345", 4}, {"fine1+2", 4}, {"fee 12345", 4}, {"fee  00000", 5}, {"fee 1 12345", 6},
             {"fee h", 4}, {"fee s", 4}, {"fee c", 4}, {"pull n", 5}, {"pull c", 5}, {"fine w", 5}, {"fine n", 5},
             {"fee wn", 4}, {"fee ww", 4}, {"pull whs", 5}, {"fee pull", 4}, {"fee fee", 4}, {"pull 1 w", 7},

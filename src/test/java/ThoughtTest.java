@@ -216,11 +216,23 @@ public final class ThoughtTest {
         x.seed(Draws.forWinds(5, 5, 5));
         due.is("turned(3, 0)", x.turned(3, 0), 3);
         due.is("turned(3, 1)", x.turned(3, 1), 147);
-        int most = x.turned(40, 0);
-        due.holds("turned(40, 0) within 1 .. 20", most >= 1 && most <= 20);
+        int z = 0;
+        while (windOf(z, 20) < 2 || windOf(z, 21) < 2) {
+            z++;
+        }
+        x.seed(z);
+        due.is("turned(21, 0): 21 would be better, but is beyond", x.turned(21, 0), 20);
         NineSail y = new NineSail();
         y.boat(0, 1, 0);
         due.is("of several the least", y.turned(40, 0), 1);
+    }
+
+    private static int windOf(int z, int hour) {
+        Draws d = new Draws(z);
+        for (int i = 0; i < 2 * (hour - 1); i++) {
+            d.next();
+        }
+        return d.next() % 10;
     }
 
     private static int leastPlace(NineSail x, int turn, int n) {
@@ -240,7 +252,7 @@ public final class ThoughtTest {
         due.promise("promise 19");
         boolean some = false;
         boolean notAll = false;
-        for (int n = 1; n <= 60; n += 4) {
+        for (int n = 60; n >= 1; n -= 4) {
             NineSail x = seven(n);
             int bits = 0;
             for (int k = 0; k < 7; k++) {
@@ -288,7 +300,7 @@ public final class ThoughtTest {
         due.is("wishes(0, 0) without boats", new NineSail().wishes(0, 0), BAD);
         due.is("wishes(1, 2) without boats", new NineSail().wishes(1, 2), BAD);
         NineSail x = seven(0);
-        for (int n = 1; n <= 60; n += 4) {
+        for (int n = 60; n >= 1; n -= 4) {
             x = seven(n);
             x.rule(4, 0);
             int best = 0;
