@@ -1131,12 +1131,13 @@ public final class NineSail {
             return homeSet() == (1 << many) - 1;
         }
 
-        /** A place of the sheet beyond all boats differs by 0: no boat's place is told there. */
+        /** Beyond all boats 0 stands across from a place of the sheet, so that a number there counts whole. */
         int differenceFrom(Sheet told) {
             int sum = 0;
             for (int k = 0; k < told.size; k++) {
-                if (has(k) && told.isNumber(k)) {
-                    sum += Math.abs(boats[k].place - told.valueAt(k));
+                if (told.isNumber(k)) {
+                    int place = has(k) ? boats[k].place : 0;
+                    sum += Math.abs(place - told.valueAt(k));
                 }
             }
             return sum;

@@ -510,8 +510,9 @@ final class Model {
         for (int law = 0; law < 3; law++) {
             State s = now.with(1, law).behind(n);
             int differ = 0;
-            for (int k = 0; k < Math.min(row.length, s.boats.size()); k++) {
-                differ += row[k] == null ? 0 : Math.abs(row[k] - s.boats.get(k).f[2]);
+            for (int k = 0; k < row.length; k++) {
+                int across = k < s.boats.size() ? s.boats.get(k).f[2] : 0;
+                differ += row[k] == null ? 0 : Math.abs(row[k] - across);
             }
             less.add(-differ);
         }

@@ -15,6 +15,8 @@ public final class ThoughtTest {
         wishes();
         whose();
         whoseByShortsAndFloats();
+        whoseBeyondAllBoats();
+        whoseBeyondBoatsThatWere();
         feeAndFine();
         nothingChanges();
         due.end();
@@ -410,12 +412,48 @@ public final class ThoughtTest {
         due.is("whose(1, 0, 1): numbers alone", x.whose(1, 0, 1), 100019);
         x.mark(1, 2, 7);
         x.mark(1, 3, NONE);
-        due.is("whose(1, 0, 1): beyond all boats 0", x.whose(1, 0, 1), 100019);
+        due.is("whose(1, 0, 1): beyond all boats 7 from 0", x.whose(1, 0, 1), 100026);
         x.sheet(2, 0, 0);
         due.is("whose(2, 60, 0) of no places", x.whose(2, 60, 0), 0);
         due.is("whose(2, 60, 1) of no places", x.whose(2, 60, 1), 0);
         x.sheet(3, 0, 1);
         due.is("whose(3, 0, 1): fewer places than boats", x.whose(3, 0, 1), 10);
+    }
+
+    private static void whoseBeyondAllBoats() {
+        due.promise("promise 21");
+        NineSail x = new NineSail();
+        x.sheet(0, 0, 24);
+        due.is("whose(0, 60, 1) of 0 everywhere, without boats", x.whose(0, 60, 1), 0);
+        x.mark(0, 0, 1);
+        x.mark(0, 8, -32768);
+        x.mark(0, 23, 32767);
+        due.is("whose(0, 0, 1): signs left out, without boats", x.whose(0, 0, 1), 1 + 32768 + 32767);
+        due.is("whose(0, 60, 1): the hours change nothing", x.whose(0, 60, 1), 1 + 32768 + 32767);
+        due.is("whose(0, 60, 0): alike under each law", x.whose(0, 60, 0), 0);
+        x.sheet(1, 1, 24);
+        for (int k = 0; k < 24; k++) {
+            x.mark(1, k, k % 2 == 0 ? 99999 : NONE);
+        }
+        due.is("whose(1, 30, 1): numbers alone, without boats", x.whose(1, 30, 1), 12 * 99999);
+        x.deal(9);
+        x.set(8, 2, 99);
+        due.is("whose(1, 0, 1): behind nine boats as well", x.whose(1, 0, 1), 12 * 99999 - 99);
+    }
+
+    /** What boats had that an image took away no longer stands across from a place. */
+    private static void whoseBeyondBoatsThatWere() {
+        due.promise("promise 21");
+        NineSail x = new NineSail();
+        x.boat(0, 1, 0);
+        x.keep();
+        x.boat(0, 1, 0);
+        x.set(1, 2, 40);
+        x.sheet(0, 0, 2);
+        x.mark(0, 1, 50);
+        due.is("whose(0, 0, 1): 50 from 40", x.whose(0, 0, 1), 10);
+        x.back();
+        due.is("whose(0, 0, 1): 50 from 0", x.whose(0, 0, 1), 50);
     }
 
     private static void feeAndFine() {
