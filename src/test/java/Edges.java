@@ -151,11 +151,39 @@ abstract class Edges {
         ladenImage(x);
         x.does("keep");
         x.does("rule", 1, 1).does("boat", 4, 33, 444).does("hours", 4).does("ties", 4, 0).does("hands", 3);
+        // Two hours in which the sail stays where it is, so that SINCE is not 0.
+        x.does("rule", 1, 0).does("rule", 2, 77).does("rule", 4, 0).does("hours", 2).does("rule", 1, 1).does("rule", 4, 30);
         x.text("fee 7*w");
+        sheetsAndSlots(x);
+        x.does("lay", 0, 1, 1);
+    }
+
+    private static void sheetsAndSlots(Run x) {
         x.does("sheet", 0, 0, 5).does("mark", 0, 0, 12).does("mark", 0, 2, -9).does("mark", 0, 4, 32767);
         x.does("sheet", 1, 1, 7).does("mark", 1, 0, NONE).does("mark", 1, 3, 99999).does("mark", 1, 6, -5);
         x.does("sheet", 3, 0, 0);
-        x.does("lay", 0, 1, 1).does("lay", 1, 2, 1).does("lay", 2, 3, -77).does("lay", 3, 2, 0);
+        x.does("lay", 1, 2, 1).does("lay", 2, 3, -77).does("lay", 3, 2, 0);
+    }
+
+    /** Likewise, but no image was ever kept; two numbers wait. */
+    static void ladenWithoutImage(Run x) {
+        ladenWithoutImageAndWaiting(x);
+        x.does("tell", 1).does("tell", 2);
+    }
+
+    static void ladenWithoutImageAndWaiting(Run x) {
+        ladenImage(x);
+        sheetsAndSlots(x);
+        x.does("lay", 0, 1, 1).tape("fee n+44*w ");
+    }
+
+    /** Likewise, but there are no boats, nor any in the image; the right numbers of one hour wait. */
+    static void ladenWithoutBoats(Run x) {
+        x.text("pull w*9+h-s");
+        x.text("fee w*3+n");
+        x.does("seed", 4711).does("rule", 4, 30).does("hours", 6).does("keep").does("rule", 1, 2).does("hours", 4);
+        sheetsAndSlots(x);
+        x.does("lay", 0, 3, 5).does("tell", 0).does("tell", 0).tape("fee n+44*w ");
     }
 
     /** The hours told of n hours, from where the setup leaves an object. */

@@ -1,4 +1,4 @@
-/** The boundary cases of Terms and Terms 1, and of promises 1 to 12, sentence by sentence. */
+/** The boundary cases of What it is, of Terms and Terms 1, and of promises 1 to 12, sentence by sentence. */
 public final class EdgesBoatsTest extends Edges {
     public static void main(String[] args) {
         testAll(EdgesBoatsTest.class);
@@ -15,6 +15,21 @@ public final class EdgesBoatsTest extends Edges {
 
     private static Run one(int kind, int weight, int wind) {
         return run().does("rule", 0, wind).does("boat", kind, weight, 0);
+    }
+
+    // ---- What it is
+
+    @Sentence(of = "What it is", words = "An object is used for at most 512 calls after it has been made;")
+    static void calls() {
+        Run x = run();
+        for (int i = 1; i <= 512; i++) {
+            x.is(i, "seed", i + 1);
+        }
+        Run y = boats(2);
+        for (int i = 3; i <= 511; i++) {
+            y.does("hours", 1);
+        }
+        y.is(509, "fleet", 2);
     }
 
     // ---- Terms
@@ -53,6 +68,12 @@ public final class EdgesBoatsTest extends Edges {
 
     @Sentence(of = "Terms", words = "and changes nothing (but the tape and the numbers that wait, where told).")
     static void refusedCallsChangeNothing() {
+        // Not much could be seen to change if all were 0.
+        Run l = run(Edges::laden).is(6, "count", 0).is(12, "count", 1).is(4, "count", 7).is(6, "count", 8).is(11, "count", 9);
+        l.is(3, "fleet", 3).is(2, "fleet", 4);
+        for (int what : new int[] {0, 1, 2, 5}) {
+            due.holds("fleet(" + what + ") is above 0", l.ask("fleet", what) > 0);
+        }
         still(Edges::laden, BAD, "boat", 0, 51, 0);
         still(Edges::laden, NOTHING, "pour", 2);
         still(Edges::laden, INDEX, "copy", 0, 0, 0, 1, 5);
@@ -490,7 +511,11 @@ public final class EdgesBoatsTest extends Edges {
         x.is(0, "turns", 0, 0).is(0, "told", 0, 0);
         Run y = boats(9).is(0, "turns", 8, 4).is(4, "told", 8, 0).is(0, "told", 7, 0);
         y.is(9, "count", 0);
-        leaves(z -> { laden(z); z.does("turns", 5, 3); }, Edges::laden, 3, "turns", 5, 4);
+        for (int boat = 0; boat < 6; boat++) {
+            int k = boat;
+            int was = run(Edges::laden).ask("told", boat, 0);
+            leaves(z -> { laden(z); z.does("turns", k, 3); }, Edges::laden, 3, "turns", boat, was);
+        }
     }
 
     @Sentence(of = "Promise 5", words = "BAD.")
@@ -509,10 +534,13 @@ public final class EdgesBoatsTest extends Edges {
         Run x = boats(9).is(1, "set", 8, 1, 50).is(50, "told", 8, 1).is(1, "told", 7, 1);
         x.is(0, "set", 8, 2, 9999).is(9999, "told", 8, 2).is(0, "told", 8, 3);
         x.is(0, "set", 8, 3, 9998).is(9998, "told", 8, 3).is(9999, "told", 8, 2);
-        for (int what = 1; what <= 3; what++) {
-            int w = what;
-            int was = run(Edges::laden).ask("told", 4, what);
-            leaves(y -> { laden(y); y.does("set", 4, w, 50); }, Edges::laden, 50, "set", 4, what, was);
+        for (int boat = 0; boat < 6; boat++) {
+            for (int what = 1; what <= 3; what++) {
+                int k = boat;
+                int w = what;
+                int was = run(Edges::laden).ask("told", boat, what);
+                leaves(y -> { laden(y); y.does("set", k, w, 50); }, Edges::laden, 50, "set", boat, what, was);
+            }
         }
     }
 
@@ -534,6 +562,8 @@ public final class EdgesBoatsTest extends Edges {
         Run x = boats(9).is(1, "ties", 8, 1).is(1, "ties", 8, 0).is(0, "ties", 8, 0).is(0, "told", 8, 5);
         x.is(0, "ties", 8, 1).is(1, "told", 8, 5);
         leaves(y -> { laden(y); y.does("ties", 1, 0); }, Edges::laden, 0, "ties", 1, 1);
+        leaves(y -> { laden(y); y.does("ties", 3, 0); }, Edges::laden, 0, "ties", 3, 1);
+        leaves(y -> { laden(y); y.does("ties", 4, 1); }, Edges::laden, 1, "ties", 4, 0);
     }
 
     @Sentence(of = "Promise 7", words = "BAD.")

@@ -7,7 +7,7 @@ public final class EdgesHoursTest extends Edges {
     /** A laden object in its last hour. */
     private static void ladenInTheLastHour(Run x) {
         laden(x);
-        late(x, 89);
+        late(x, 87);
     }
 
     private static int windAndRest(int wind, int rest) {
@@ -60,6 +60,9 @@ public final class EdgesHoursTest extends Edges {
         }
         Run x = boats(9).does("rule", 4, 100).does("rule", 2, 99).does("hands", 8).does("hours", 1).is(0, "fleet", 3);
         x.does("set", 3, 1, 50).does("set", 7, 1, 50).does("hours", 1).is(3, "fleet", 3).is(1, "told", 3, 6).is(0, "told", 7, 6);
+        // It has the sail before all move: a TENT would pull nothing.
+        Run y = run().does("boat", 5, 1, 0).does("boat", 0, 9, 0).does("rule", 4, 100).does("seed", Draws.forWinds(2));
+        y.does("hours", 1).is(11, "told", 0, 2).is(11, "told", 1, 2).is(2, "told", 0, 4).is(0, "told", 1, 4);
     }
 
     @Sentence(of = "Terms 2", words = "SINCE is 0 then, also if it had it)")
@@ -73,6 +76,8 @@ public final class EdgesHoursTest extends Edges {
         y.does("seed", Draws.forWinds(5)).does("hours", 1).is(was + 1, "told", 0, 2);
         Run z = boats(2).does("set", 1, 1, 9).does("hours", 2).does("rule", 4, 100).does("hours", 1).is(1, "fleet", 4);
         z.is(1, "fleet", 3);
+        // A TURN of 1 is come to in the same hour.
+        boats(3).does("set", 1, 1, 9).does("rule", 2, 1).does("rule", 4, 100).does("hours", 1).is(2, "fleet", 3).is(0, "fleet", 4);
     }
 
     @Sentence(of = "Terms 2", words = "WEAR is 5 more, its PATCHES are 1 more.")

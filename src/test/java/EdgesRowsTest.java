@@ -86,9 +86,8 @@ public final class EdgesRowsTest extends Edges {
     @Sentence(of = "Promise 38", words = "FULL: 60 wait.")
     static void tellFull() {
         Setup sixty = x -> {
-            fleet(x);
-            x.does("keep");
-            for (int v : hoursTold(EdgesRowsTest::fleet, 30)) {
+            ladenButWaiting(x);
+            for (int v : hoursTold(Edges::ladenImage, 30)) {
                 x.does("tell", v);
             }
         };
@@ -186,9 +185,8 @@ public final class EdgesRowsTest extends Edges {
 
     @Sentence(of = "Promise 39", words = "NO: there is no IMAGE.")
     static void checkNo() {
-        Setup without = x -> { x.does("deal", 3).does("sheet", 0, 0, 2).does("lay", 1, 3, 4).tape("fee 1"); };
-        leaves(x -> { without.on(x); x.does("tell", 1).does("tell", 2); }, without, NO, "check", 1);
-        leaves(x -> { without.on(x); x.does("tell", 1).does("tell", 2); }, without, NO, "check", 30);
+        leaves(Edges::ladenWithoutImage, Edges::ladenWithoutImageAndWaiting, NO, "check", 1);
+        leaves(Edges::ladenWithoutImage, Edges::ladenWithoutImageAndWaiting, NO, "check", 30);
         run().is(NO, "check", 1).does("keep").is(1, "check", 1);
     }
 
@@ -228,7 +226,8 @@ public final class EdgesRowsTest extends Edges {
 
     @Sentence(of = "Promise 41", words = "NO: there is none.")
     static void backNo() {
-        still(x -> { x.does("deal", 4).does("hours", 5).does("sheet", 1, 1, 3).does("lay", 2, 3, 9).tape("fee 5"); }, NO, "back");
+        still(Edges::ladenWithoutImage, NO, "back");
+        still(x -> { }, NO, "back");
         run().is(NO, "back").is(0, "keep").is(0, "back");
     }
 

@@ -196,8 +196,11 @@ public final class EdgesTextsTest extends Edges {
         gives(0, "w");
         gives(1, "!w");
         gives(0, "!!w");
-        gives(1, "!0*1");
+        gives(8, "!0*8");
         gives(2, "!0+1");
+        gives(1, "!1<1");
+        gives(1, "!0|1");
+        gives(0, "!1&0");
         gives(3, "(3)");
         gives(3, "((3))");
         gives(0, "!(3)");
@@ -420,6 +423,24 @@ public final class EdgesTextsTest extends Edges {
         fault("fee " + "(".repeat(8) + "1+(1)" + ")".repeat(8), 14);
         fault("fee " + "(1+".repeat(8) + "(", 28);
         fault("fee " + "(1|1&1<1+1*".repeat(8) + "(", 92);
+    }
+
+    @Sentence(of = "Terms 4", words = "( E ).")
+    static void deepAndWide() {
+        // 1-2*(3-4*( .. (15-16*17)): two wait at each of eight levels.
+        StringBuilder minus = new StringBuilder();
+        int value = 17;
+        for (int i = 15; i >= 1; i -= 2) {
+            value = i - (i + 1) * value;
+        }
+        for (int i = 1; i <= 15; i += 2) {
+            minus.append(i).append('-').append(i + 1).append("*(");
+        }
+        gives(value, minus + "17" + ")".repeat(8));
+        // Five wait at each of seven levels.
+        gives(1, "(0|1&0<1+2*".repeat(7) + "3" + ")".repeat(7));
+        gives(0, "(0|1&9<1+2*".repeat(7) + "3" + ")".repeat(7));
+        gives(1, "(0|1&9<1+2*".repeat(6) + "(0|1&9<1+2*5" + ")".repeat(7) + "=0");
     }
 
     @Sentence(of = "Terms 4", words = "the ninth ! likewise,")

@@ -205,6 +205,9 @@ public final class EdgesThoughtTest extends Edges {
         for (int seed = 1; seed <= 6; seed++) {
             run(seven(seed)).is(cutOffByHours(seven(seed), 30), "cutOff", 30);
         }
+        // The one with the sail is no faster if it is cut; it would be, if the heavy one were cut as well.
+        Run x = boats(2).does("set", 0, 1, 50).does("hands", 1).does("rule", 2, 99).does("rule", 3, 0).does("seed", Draws.forWinds(5));
+        x.is(0, "cutOff", 1).does("ties", 0, 0).is(0, "cutOff", 1);
     }
 
     /** Of seven boats, each in an object of its own. */
@@ -415,14 +418,15 @@ public final class EdgesThoughtTest extends Edges {
         int[][] bad = {{0, 0}, {41, 0}, {-1, 0}, {MIN, 1}, {MAX, 1}, {1, -1}, {1, 2}, {40, MIN}, {40, MAX}};
         for (int[] b : bad) {
             still(Edges::laden, BAD, "turned", b);
-            still(x -> { }, BAD, "turned", b);
+            still(Edges::ladenWithoutBoats, BAD, "turned", b);
         }
     }
 
     @Sentence(of = "Promise 18", words = "NONE: there are no BOATS.")
     static void turnedWithoutBoats() {
-        still(x -> { }, NONE, "turned", 1, 0);
-        still(x -> { }, NONE, "turned", 40, 1);
+        still(Edges::ladenWithoutBoats, NONE, "turned", 1, 0);
+        still(Edges::ladenWithoutBoats, NONE, "turned", 40, 1);
+        run().is(NONE, "turned", 1, 0).is(NONE, "turned", 40, 1);
         run().does("keep").does("deal", 1).does("back").is(NONE, "turned", 1, 1).does("deal", 1).is(1, "turned", 1, 0);
     }
 
@@ -448,7 +452,7 @@ public final class EdgesThoughtTest extends Edges {
     static void cutOffBad() {
         for (int n : new int[] {0, 61, -1, MIN, MAX}) {
             still(Edges::laden, BAD, "cutOff", n);
-            still(x -> { }, BAD, "cutOff", n);
+            still(Edges::ladenWithoutBoats, BAD, "cutOff", n);
         }
     }
 
@@ -473,14 +477,15 @@ public final class EdgesThoughtTest extends Edges {
         int[][] bad = {{0, 0}, {61, 0}, {-1, 0}, {MIN, 1}, {MAX, 1}, {1, -1}, {1, 2}, {60, MIN}, {60, MAX}};
         for (int[] b : bad) {
             still(Edges::laden, BAD, "wishes", b);
-            still(x -> { }, BAD, "wishes", b);
+            still(Edges::ladenWithoutBoats, BAD, "wishes", b);
         }
     }
 
     @Sentence(of = "Promise 20", words = "NONE: there are no BOATS.")
     static void wishesWithoutBoats() {
-        still(x -> { }, NONE, "wishes", 1, 0);
-        still(x -> { }, NONE, "wishes", 60, 1);
+        still(Edges::ladenWithoutBoats, NONE, "wishes", 1, 0);
+        still(Edges::ladenWithoutBoats, NONE, "wishes", 60, 1);
+        run().is(NONE, "wishes", 1, 0).is(NONE, "wishes", 60, 1);
         run().does("keep").does("deal", 1).does("back").is(NONE, "wishes", 1, 1).does("deal", 1).is(0, "wishes", 1, 0);
     }
 

@@ -95,7 +95,7 @@ public final class Mutants {
             {"(?<![<\\-=])<(?![<=])", "<="}, {"<=", "<"}, {"(?<![>\\-])>(?![>=])", ">="}, {"(?<!>)>=", ">"},
             {"(?<![<>])(?<![<>])<(?![<=])", ">"}, {"==", "!="}, {"!=", "=="}, {"&&", "||"}, {"\\|\\|", "&&"},
             {" \\+ ", " - "}, {" - ", " + "}, {" \\* ", " + "}, {" / ", " * "}, {" % ", " / "}, {" \\+= ", " -= "}, {" \\|= ", " &= "},
-            {"\\+\\+", "--"}, {"(?<=[(&| =])!(?=[a-z])", ""}, {"\\btrue\\b", "false"}, {"\\bfalse\\b", "true"},
+            {"\\+\\+(?=;)", "--"}, {"(?<=[(&| =])!(?=[a-z])", ""}, {"\\btrue\\b", "false"}, {"\\bfalse\\b", "true"},
             {"Math\\.max", "Math.min"}, {"Math\\.min", "Math.max"}, {">>>", ">>"},
             {"\\bLETTERS\\b", "DIGITS"}, {"\\bDIGITS\\b", "LETTERS"}, {"\\bSHORTS\\b", "FLOATS"}, {"\\bFLOATS\\b", "SHORTS"}};
         for (String[] s : signs) {
@@ -107,6 +107,7 @@ public final class Mutants {
         numbers();
         statements();
         refusalsSwapped();
+        refusalsThatChange();
         partsOfConditions();
     }
 
@@ -139,6 +140,18 @@ public final class Mutants {
         Matcher m = Pattern.compile("(?=(" + block + ")((?:        (?:Boat|Sheet|int)[^{}\n]*;\n)*)(" + block + "))").matcher(source);
         while (m.find()) {
             add(m.start(1), m.end(3), m.group(2) + m.group(3) + m.group(1));
+        }
+    }
+
+    /** A call that is refused does something all the same. */
+    private void refusalsThatChange() {
+        String[] changes = {"sea.since++", "sea.z++", "tape.length = 0", "waitingCount = 0", "slotThings[0] = 0",
+            "sheets[0].lose()", "image.become(sea)", "sea.boats[0].tied = !sea.boats[0].tied"};
+        Matcher m = Pattern.compile("return (BAD|NO|FULL|NONE|NOTHING|KIND|INDEX|SIZE);").matcher(source);
+        while (m.find() && m.start() < source.indexOf("// ---- what arguments may be")) {
+            for (String change : changes) {
+                add(m.start(), m.end(), "{ " + change + "; " + m.group() + " }");
+            }
         }
     }
 

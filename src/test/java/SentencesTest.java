@@ -34,9 +34,10 @@ public final class SentencesTest {
         due.end();
     }
 
-    /** Terms, its five sections, and the promises without their headings and signatures. */
+    /** How often an object is used, Terms, its five sections, and the promises without their headings and signatures. */
     private static Map<String, String> parts(String document) {
         Map<String, String> parts = new LinkedHashMap<>();
+        parts.put("What it is", between(document, "gone on from.", "what later calls answer is free."));
         parts.put("Terms", between(document, "## Terms", "======== 1"));
         for (int i = 1; i <= 4; i++) {
             parts.put("Terms " + i, between(document, "======== " + i, "======== " + (i + 1)));
@@ -46,7 +47,7 @@ public final class SentencesTest {
         while (m.find()) {
             parts.put("Promise " + m.group(1), m.group(2));
         }
-        due.is("parts of the document", parts.size(), 6 + PROMISES);
+        due.is("parts of the document", parts.size(), 7 + PROMISES);
         return parts;
     }
 
