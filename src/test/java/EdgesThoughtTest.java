@@ -237,6 +237,11 @@ public final class EdgesThoughtTest extends Edges {
             }
             run(seven(seed)).is(best, "wishes", 10, 0).is(most, "wishes", 10, 1);
         }
+        // Each of the BOATS is thought of, and nobody else: if none had the sail it would be 28 here.
+        Setup two = x -> x.does("seed", 1061).does("rule", 1, 1).does("boat", 0, 20, 80).does("boat", 1, 49, 163).does("ties", 1, 0);
+        due.holds("by boat 0 less", run(two).does("hands", 0).does("hours", 2).ask("fleet", 1) < 24);
+        run(two).does("hands", 1).does("hours", 2).is(24, "fleet", 1);
+        run(two).is(1, "wishes", 2, 0).is(24, "wishes", 2, 1);
         // The one that has it begins anew: SINCE was 2 of 3, and the next one would be a TENT.
         Run x = run().does("boat", 0, 1, 0).does("boat", 5, 1, 0).does("seed", Draws.forWinds(0, 0, 5, 5, 5)).does("hours", 2);
         x.is(2, "fleet", 4).is(0, "wishes", 3, 0).is(2 * 3 * 49, "wishes", 3, 1).is(2, "fleet", 4).is(49, "behind", 3, 3);
