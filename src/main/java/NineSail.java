@@ -364,13 +364,13 @@ public final class NineSail {
             return NOTHING;
         }
         int best = 0;
-        int least = Integer.MAX_VALUE;
+        int least = 0;
         for (int law = 0; law < LAWS; law++) {
             thought.become(sea);
             thought.rules[LAW] = law;
             thought.letPass(n);
             int sum = thought.differenceFrom(sheets[sheet]);
-            if (sum < least) {
+            if (law == 0 || sum < least) {
                 least = sum;
                 best = law;
             }
