@@ -483,6 +483,11 @@ public final class EdgesTextsTest extends Edges {
         fault(" ".repeat(96), 96);
         run().is(-100, "text");
         run().does("feed", 0x66656520, 0x312b2020, 0x20202020).is(-112, "text");
+        // What trim took off, or a text used up, is no byte any more, not even if it was blank or would go on.
+        for (String behind : new String[] {" ", "      ", "2     ", " 2"}) {
+            run().tape("fee 1+" + behind).is(6, "trim", 6).is(-106, "text");
+            run().tape("fee 1+2     " + behind).does("text").tape("fee      1+ ").is(-112, "text");
+        }
     }
 
     @Sentence(of = "Terms 4", words = "Ints wrap;")

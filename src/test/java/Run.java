@@ -61,20 +61,12 @@ final class Run {
     Run tape(String text) {
         int had = ask("count", 9);
         for (int i = 0; i < text.length(); i += 12) {
-            ask("feed", word(text, i), word(text, i + 4), word(text, i + 8));
+            ask("feed", Tapes.word(text, i), Tapes.word(text, i + 4), Tapes.word(text, i + 8));
         }
         return does("trim", had + text.length());
     }
 
     int text(String text) {
         return tape(text).ask("text");
-    }
-
-    private static int word(String text, int from) {
-        int word = 0;
-        for (int i = from; i < from + 4; i++) {
-            word = word << 8 | (i < text.length() ? text.charAt(i) & 255 : 0);
-        }
-        return word;
     }
 }

@@ -19,7 +19,8 @@ final class Tapes {
         return x.text();
     }
 
-    private static int word(String text, int from) {
+    /** Four bytes of the string as one number, the first the highest; 0 beyond its end. */
+    static int word(String text, int from) {
         int word = 0;
         for (int i = from; i < from + 4; i++) {
             word = word << 8 | (i < text.length() ? text.charAt(i) & 255 : 0);
